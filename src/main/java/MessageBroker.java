@@ -117,7 +117,7 @@ public final class MessageBroker {
         return removed;
     }
 
-    /** Messages behind this one are still STORED when it is asked, as offsets are compacted rising. */
+    /** The last message of a key is told rightly as offsets are compacted rising: it is STORED until its own turn. */
     private boolean isCompactedAway(Message message, int stable) {
         if (message.kind == ABORTED) {
             return true;
@@ -1197,8 +1197,9 @@ public final class MessageBroker {
         }
 
         int storedCount() {
+            int end = logEnd();
             int stored = 0;
-            for (int offset = firstOffset; offset < log.length; offset++) {
+            for (int offset = firstOffset; offset < end; offset++) {
                 if (storedAt(offset) != null) {
                     stored++;
                 }
@@ -1469,7 +1470,7 @@ public final class MessageBroker {
             return count;
         }
 
-        /** Where the row of a message stands empty below an offset. */
+        /** Whether the row of a message has none below an offset. */
         boolean hasNoneOfRow(Message message, int offset) {
             for (int i = 0; i < size; i++) {
                 Letter letter = get(i);

@@ -20,6 +20,7 @@ public final class GroupsTest {
         test.credits();
         test.readOrder();
         test.readRows();
+        test.readIntoARow();
         test.readPassesOver();
         test.readAnew();
         test.readStops();
@@ -297,6 +298,18 @@ public final class GroupsTest {
         run.due(1, "hand", 0, 0, 1, 2).due(0, "hand", 0, 0, 1, 1).due(2, "seen", 0, 2).due(1, "audit", 3);
     }
 
+    private void readIntoARow() {
+        Run run = reader("promise 25, into the row of its key", 1);
+        send(run, 1, 1, 1, 2);
+        reads(run, 0, 0);
+        run.due(2, "retry", 0, 0, 0).make("tick", 1);
+        reads(run, 0, 3, NONE);
+        waiting(run, 1, 2, 0);
+        run.due(1, "waits", 0, 0, 1).due(0, "waits", 0, 0, 2).make("tick", 1);
+        reads(run, 0, 0, 1, NONE);
+        run.make("done", 0, 0, 3).due(2, "read", 0, 0).due(1, "audit", 3);
+    }
+
     private void readPassesOver() {
         Run run = reader("promise 25, what is passed over", 1);
         send(run, 1, 2, 3, 1, 4);
@@ -439,6 +452,14 @@ public final class GroupsTest {
         run.make("leave", 0, 1).due(1, "seek", 0, 0, 0).make("join", 0).make("beat", 0, 2);
         reads(run, 2, 0, 2, NONE);
         run.due(1, "audit", 6);
+
+        Run order = reader("promise 29, the order is since the latest seek", 1);
+        send(order, 1, 1);
+        order.make("leave", 0, 0).make("seek", 0, 0, 1).make("join", 0).make("beat", 0, 1);
+        reads(order, 1, 1);
+        order.due(1, "audit", 6).make("leave", 0, 1).make("seek", 0, 0, 0).make("join", 0).make("beat", 0, 2);
+        reads(order, 2, 0);
+        order.due(1, "audit", 3).due(1, "audit", 6).due(1, "read", 0, 2).due(1, "audit", 6);
 
         Run behind = reader("promise 29, an offset behind the end", 1);
         send(behind, 1, 1);

@@ -244,6 +244,10 @@ public final class ProducersTest {
         run.due(0, "message", 2, 1).due(1, "message", 0, 8).due(1, "partition", 0, 4).state("commit", 0);
         run.due(0, "count", 7).make("send", 0, 0, 0, 4).due(0, "message", 3, 1);
 
+        Run last = run("promise 18, each message must be below");
+        last.make("topic", 2, 2, 0).make("producer").make("begin", 0).make("send", 0, 0, 0, 1).make("send", 0, 0, 1, 2);
+        last.due(1, "fetch", 2).state("commit", 0).due(1, "fetch", 1).due(2, "commit", 0);
+
         Run open = run("promise 18, the stable offset");
         open.make("topic", 1, 1, 0).make("producer").make("producer").make("begin", 0).make("send", 1, 0, 1, 1);
         open.make("send", 0, 0, 1, 2).make("send", 1, 0, 1, 3).due(1, "partition", 0, 4).due(1, "value", 0, 1);

@@ -126,6 +126,7 @@ public final class TopicsTest {
         run.due(0, "partition", 0, 5).due(3, "partition", 0, 7).due(6, "partition", 0, 6);
         run.make("tick", 20).due(0, "compact", 0).make("tick", 1).due(1, "compact", 0).due(3, "message", 3, 0);
         run.due(1, "message", 6, 0).due(2, "partition", 0, 7).due(1, "audit", 6);
+        run.make("send", 0, 0, 4, NONE).make("tick", 20).due(1, "compact", 0).make("tick", 1).due(1, "compact", 0);
     }
 
     private void compactStopsAtTheStableOffset() {
@@ -182,6 +183,10 @@ public final class TopicsTest {
         run.due(0, "fail", 1).due(2, "partition", 0, 3).due(1, "partition", 0, 2).due(0, "partition", 0, 1);
         run.due(0, "fail", 2).due(1, "partition", 0, 2).due(0, "restore", 1).due(1, "partition", 0, 2);
         run.make("tick", 1).due(3, "partition", 0, 2).due(1, "replica", 0, 1, 2);
+        Run behind = run("promise 5, a follower behind a leader that is not the least");
+        behind.make("topic", 1, 3, 0).make("producer").due(0, "fail", 0).due(0, "restore", 0).due(0, "fetch", 0);
+        behind.make("speed", 0).make("send", 0, 0, 1, 1).due(0, "fail", 2).due(1, "partition", 0, 1);
+        behind.due(3, "partition", 0, 2).due(1, "partition", 0, 6).due(1, "fail", 1).due(0, "partition", 0, 1);
     }
 
     private void restore() {
