@@ -5,16 +5,24 @@ import java.util.Map;
 
 /** Calls methods of an object by their names, with numbers as arguments and an answer as text. */
 final class Caller {
+    /** By classes, as looking methods up is dear and many objects are called. */
+    private static final Map<Class<?>, Map<String, Method>> KNOWN = new HashMap<>();
     private final Object object;
-    private final Map<String, Method> methods = new HashMap<>();
+    private final Map<String, Method> methods;
 
     Caller(Object object) {
         this.object = object;
-        for (Method method : object.getClass().getDeclaredMethods()) {
+        this.methods = KNOWN.computeIfAbsent(object.getClass(), Caller::methodsOf);
+    }
+
+    private static Map<String, Method> methodsOf(Class<?> type) {
+        Map<String, Method> found = new HashMap<>();
+        for (Method method : type.getDeclaredMethods()) {
             if (!method.isSynthetic() && takesNumbers(method)) {
-                methods.put(method.getName() + method.getParameterCount(), method);
+                found.put(method.getName() + method.getParameterCount(), method);
             }
         }
+        return found;
     }
 
     private static boolean takesNumbers(Method method) {

@@ -1,5 +1,8 @@
-import java.util.function.BooleanSupplier;
-import java.util.function.IntSupplier;
+import java.lang.reflect.InvocationTargetException;
+import java.lang.reflect.Method;
+import java.lang.reflect.Modifier;
+import java.util.Arrays;
+import java.util.Comparator;
 
 /** Counts and prints the answers that are not the ones due; ends the program with 1 if there was one. */
 final class Check {
@@ -10,6 +13,22 @@ final class Check {
     private String about = "";
     private int asked = 0;
     private int wrong = 0;
+
+    /** Runs all methods of an object that take and answer nothing, so that none can be forgotten, and ends. */
+    void runAll(Object tests) throws IllegalAccessException, InvocationTargetException {
+        Method[] methods = tests.getClass().getDeclaredMethods();
+        Arrays.sort(methods, Comparator.comparing(Method::getName));
+        for (Method method : methods) {
+            boolean isTest = method.getParameterCount() == 0 && method.getReturnType() == void.class;
+            if (isTest && !Modifier.isStatic(method.getModifiers())) {
+                int before = asked;
+                method.setAccessible(true);
+                method.invoke(tests);
+                yes(method.getName() + " checks something", asked > before);
+            }
+        }
+        end();
+    }
 
     /** Names what the checks from here on are about. */
     void about(String what) {
@@ -28,28 +47,11 @@ final class Check {
         text(call, "false", Boolean.toString(answered));
     }
 
-    /** The call must throw exactly this class, not one below it, as the machine's own would be. */
-    void refuses(String call, String due, IntSupplier made) {
-        text(call, due, outcome(made));
-    }
-
-    void refusesAsked(String call, String due, BooleanSupplier made) {
-        text(call, due, outcome(() -> made.getAsBoolean() ? 1 : 0));
-    }
-
     void text(String call, String due, String answered) {
         asked++;
         if (!due.equals(answered)) {
             wrong++;
             System.out.println(about + ": " + call + " answered " + answered + ", due is " + due);
-        }
-    }
-
-    static String outcome(IntSupplier made) {
-        try {
-            return Integer.toString(made.getAsInt());
-        } catch (RuntimeException thrown) {
-            return thrown.getClass().getSimpleName();
         }
     }
 

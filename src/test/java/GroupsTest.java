@@ -436,12 +436,10 @@ public final class GroupsTest {
         Run run = reader("promise 29, dead letters", 2);
         send(run, 0, 1, 0);
         reads(run, 0, 0, 1);
-        for (int ticks : new int[] {2, 4, NONE}) {
-            for (int message = 0; message <= 1; message++) {
-                run.due(ticks == NONE ? NONE : run.broker.count(5) + ticks, "retry", 0, 0, message);
-            }
-            if (ticks != NONE) {
-                run.make("tick", ticks);
+        for (int due : new int[] {2, 6, NONE}) {
+            run.due(due, "retry", 0, 0, 0).due(due, "retry", 0, 0, 1);
+            if (due != NONE) {
+                run.make("tick", due == 2 ? 2 : 4);
                 reads(run, 0, 0, 1);
             }
         }
