@@ -45,6 +45,49 @@ public final class TopicBoundsTest {
         run.noPlace("dead", 0, 0).noPlace("seen", 0, 0).noPlace("ofGroup", 0, 0).bad("group", 1);
     }
 
+    /** All there can be: 3 topics, 9 partitions, 4 producers, 3 groups, members 8 to 11 of group 0, 150 messages. */
+    private Run fullObject(String about) {
+        Run run = run(about).times(3, "topic", 3, 3, 1).times(4, "producer").times(3, "group", 7);
+        for (int member = 0; member < 8; member++) {
+            run.make("join", 0).make("leave", 0, member);
+        }
+        return run.times(4, "join", 0).times(150, "sendLater", 3, 2, 2, 1, 50);
+    }
+
+    private void onAFullObjectTheGreatestNumbersAreTaken() {
+        Run run = fullObject("the greatest numbers there can be");
+        run.due(NONE, "value", 2, 2).due(2, "partition", 8, 0).due(0, "replica", 8, 2, 0).due(0, "compact", 8);
+        run.due(0, "begin", 3).due(0, "attach", 3, 0, 11).due(0, "resend", 3, 8).due(2, "beat", 0, 11).due(8, "message", 149, 3);
+        run.due(0, "seen", 2, 149).due(0, "ofGroup", 2, 0).due(0, "seek", 2, 8, 60).due(NONE, "share", 2, 8, 0);
+    }
+
+    private void onAFullObjectNoNumberIsAboveTheGreatest() {
+        Run run = fullObject("no such topic, partition or replica above the greatest number there can be");
+        run.noPlace("retain", 3, 1, 1).noPlace("send", 3, 3, 1, 1).noPlace("sendSome", 3, 3, 1, 1);
+        run.noPlace("sendLater", 3, 3, 1, 1, 1).noPlace("value", 3, 1).noPlace("sum", 3, 1, 0, 9);
+        run.noPlace("compact", 9).noPlace("resend", 3, 9).noPlace("seek", 2, 9, 0).noPlace("at", 9, 0);
+        run.noPlace("partition", 9, 0).noPlace("replica", 9, 0, 0).noPlace("replica", 8, 3, 0).noPlace("offsetAt", 9, 0);
+        run.noPlace("share", 2, 9, 0).noPlace("message", 150, 0).noPlace("seen", 2, 150);
+
+        Run makers = fullObject("no such producer above the greatest number there can be");
+        makers.noPlace("quota", 4, 1).noPlace("send", 4, 2, 1, 1).noPlace("sendSome", 4, 2, 1, 1).noPlace("begin", 4);
+        makers.noPlace("sendLater", 4, 2, 1, 1, 1).noPlace("resend", 4, 8).noPlace("attach", 4, 0, 11);
+        makers.noPlace("commit", 4).noPlace("abort", 4);
+
+        for (int[] wrong : new int[][] {{3, 11}, {0, 12}}) {
+            Run readers = fullObject("no such group, or member in it, above the greatest number: " + wrong[0] + ", " + wrong[1]);
+            for (String name : new String[] {"leave", "beat", "read", "commitOffsets"}) {
+                readers.noPlace(name, wrong);
+            }
+            readers.noPlace("attach", 3, wrong[0], wrong[1]).noPlace("credits", wrong[0], wrong[1], 3);
+            readers.noPlace("done", wrong[0], wrong[1], 0).noPlace("retry", wrong[0], wrong[1], 0);
+            readers.noPlace("member", wrong[0], wrong[1], 0).noPlace("hand", wrong[0], wrong[1], 0, 0);
+        }
+        Run groups = fullObject("no such group above the greatest number there can be");
+        groups.noPlace("join", 3).noPlace("seek", 3, 8, 0).noPlace("share", 3, 8, 0).noPlace("waits", 3, 0, 0);
+        groups.noPlace("dead", 3, 0).noPlace("seen", 3, 0).noPlace("ofGroup", 3, 0);
+    }
+
     private void onANewObjectAllBrokersAreLive() {
         Run run = run("promise 1: all brokers are live, and have nothing to lose, to copy or to lead");
         for (int broker = 0; broker <= 2; broker++) {
