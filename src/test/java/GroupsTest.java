@@ -146,22 +146,26 @@ public final class GroupsTest {
         Random random = new Random(5);
         for (int drawn = 0; drawn < 200; drawn++) {
             MessageBroker broker = new MessageBroker();
+            int partitions = 0;
             for (int topic = 0; topic < 3; topic++) {
-                broker.topic(1 + random.nextInt(3), 1, false);
+                int own = 1 + random.nextInt(3);
+                broker.topic(own, 1, false);
+                partitions += own;
             }
             broker.group(7);
             for (int change = 0; change < 14; change++) {
-                changeMembers(broker, random);
+                changeMembers(broker, partitions, random);
             }
         }
     }
 
-    private void changeMembers(MessageBroker broker, Random random) {
+    private void changeMembers(MessageBroker broker, int partitions, Random random) {
         int members = broker.ofGroup(0, 1);
         int[] before = new int[12];
-        for (int p = 0; p < broker.count(1); p++) {
-            if (broker.share(0, p, 1) != NONE) {
-                before[broker.share(0, p, 1)]++;
+        for (int p = 0; p < partitions; p++) {
+            int target = broker.share(0, p, 1);
+            if (target != NONE) {
+                before[target]++;
             }
         }
         boolean isJoin = Integer.bitCount(members) < 2 || Integer.bitCount(members) < 4 && random.nextBoolean();
@@ -174,21 +178,20 @@ public final class GroupsTest {
             }
             broker.leave(0, gone);
         }
-        check.same("moves", leastMoves(broker, before), broker.ofGroup(0, 5));
+        check.same("moves", leastMoves(broker.ofGroup(0, 1), partitions, before), broker.ofGroup(0, 5));
     }
 
-    private int leastMoves(MessageBroker broker, int[] before) {
-        int members = broker.ofGroup(0, 1);
+    private static int leastMoves(int members, int partitions, int[] before) {
         int count = Integer.bitCount(members);
         if (count == 0) {
             return 0;
         }
         int least = MAX;
         for (int more = members; more >= 0; more = more == 0 ? -1 : more - 1 & members) {
-            if (Integer.bitCount(more) == broker.count(1) % count) {
+            if (Integer.bitCount(more) == partitions % count) {
                 int moves = 0;
                 for (int m = 0; m < 12; m++) {
-                    int share = broker.count(1) / count + (more >> m & 1);
+                    int share = partitions / count + (more >> m & 1);
                     moves += (members >> m & 1) == 1 ? Math.max(0, before[m] - share) : 0;
                 }
                 least = Math.min(least, moves);
