@@ -226,6 +226,15 @@ public final class TogetherTest {
                 .due(2, "message", 1, 1);
     }
 
+    private void openMessagesOfOnePartition() {
+        Run run = run("Transactions: the stable offset is the least offset of an OPEN message in the partition, not in others");
+        run.make("topic", 2, 1, 1).times(2, "producer").make("group", 1).make("join", 0).make("beat", 0, 0);
+        run.make("begin", 0).make("send", 0, 0, 1, 1).times(2, "send", 1, 0, 0, 2).due(2, "partition", 0, 4);
+        run.due(0, "partition", 1, 4).due(1, "message", 1, 8).due(2, "value", 0, 0).due(1, "compact", 0);
+        reads(run, 0, 0, 2, NONE).due(0, "compact", 1).due(1, "commit", 0).due(1, "partition", 1, 4);
+        reads(run, 0, 0, 0, NONE);
+    }
+
     private void oneBreaksAndTheOtherDoesNot() {
         Run run = run("Transactions: if a message of it is cut, it is broken, and no other one is");
         run.make("topic", 1, 2, 0).make("topic", 1, 1, 0).times(3, "producer").make("speed", 0);
