@@ -499,6 +499,43 @@ public final class QuestionBoundsTest {
         run.make("done", 0, 2, 1).due(1, "commitOffsets", 0, 2).dueEach(new int[] {1, 1, 1, 1, 1, 1, 1}, "audit");
     }
 
+    private void auditsOfWhatWaits() {
+        Run run = oneLog("promise 45: offsets: what stands below the committed offset was delivered, waits, or is dead");
+        run.make("group", 1).make("join", 0).make("beat", 0, 0).times(2, "send", 0, 0, 1, 1).due(0, "read", 0, 0);
+        run.due(2, "retry", 0, 0, 0).due(NONE, "read", 0, 0).due(1, "commitOffsets", 0, 0).due(2, "share", 0, 0, 2);
+        run.due(0, "seen", 0, 1).due(2, "ofGroup", 0, 3).dueEach(new int[] {1, 1, 1, 1, 1, 1, 1}, "audit");
+        run.due(1, "leave", 0, 0).dueEach(new int[] {1, 1, 1, 1, 1, 1, 1}, "audit").make("join", 0).make("beat", 0, 1);
+        run.make("tick", 2).due(0, "read", 0, 1).due(6, "retry", 0, 1, 0).make("tick", 4).due(0, "read", 0, 1);
+        run.due(NONE, "retry", 0, 1, 0).dueEach(new int[] {1, 1, 1, 1, 1, 1, 1}, "audit").due(1, "read", 0, 1);
+        run.dueEach(new int[] {1, 1, 1, 1, 1, 1, 1}, "audit");
+    }
+
+    private void auditsOfWhatCannotBeRead() {
+        Run run = oneLog("promise 45: offsets: what cannot be read is not asked: REMOVED and ABORTED messages");
+        run.make("group", 1).make("retain", 0, 999, 2).times(3, "send", 0, 0, 1, 1).make("tick", 1).make("begin", 0);
+        run.make("send", 0, 0, 1, 1).due(1, "abort", 0).make("send", 0, 0, 1, 1).make("join", 0).make("beat", 0, 0);
+        run.due(1, "commitOffsets", 0, 0).due(1, "share", 0, 0, 2).due(1, "audit", 4).due(1, "read", 0, 0);
+        run.due(2, "read", 0, 0).due(4, "read", 0, 0).make("done", 0, 0, 1).make("done", 0, 0, 2);
+        run.due(1, "commitOffsets", 0, 0).due(4, "share", 0, 0, 2).due(0, "seen", 0, 3);
+        run.dueEach(new int[] {1, 1, 1, 1, 1, 1, 1}, "audit").make("tick", 1).due(3, "message", 2, 0).due(3, "at", 0, 3);
+        run.dueEach(new int[] {1, 1, 1, 1, 1, 1, 1}, "audit");
+    }
+
+    private void auditsOfAKeyInSeveralPartitions() {
+        Run run = run("promise 45: order: the messages of a key in a partition, not those in others");
+        run.make("topic", 1, 1, 0).make("topic", 1, 1, 0).make("producer").make("group", 3).make("join", 0);
+        run.make("beat", 0, 0).times(2, "send", 0, 0, 1, 1).due(0, "read", 0, 0).due(1, "read", 0, 0);
+        run.make("send", 0, 1, 1, 1).due(2, "read", 0, 0).dueEach(new int[] {1, 1, 1, 1, 1, 1, 1}, "audit");
+    }
+
+    private void auditsOfLoweredEnds() {
+        Run run = logs("promise 45: logs: ends, as replica() tells them, with brokers that are not live");
+        run.times(2, "send", 0, 0, 0, 1).times(2, "send", 0, 0, 1, 1).due(2, "fail", 0).due(1, "audit", 0);
+        run.due(2, "fail", 1).dueEach(new int[] {1, 1, 1, 1, 1, 1, 1}, "audit").due(0, "fail", 2).due(1, "audit", 0);
+        run.due(0, "restore", 0).due(1, "audit", 0).due(1, "restore", 1).due(1, "audit", 0).due(1, "restore", 2);
+        run.due(2, "resend", 0, 0).due(2, "resend", 0, 1).due(1, "audit", 0);
+    }
+
     // ======== promise 46
 
     private void theDigestOfNothing() {
